@@ -108,8 +108,35 @@ public final class ModelTests {
             call("obstacle", 12 * below(10) + below(12));
         }
         int crowd = 1 + below(10);
+        if (below(4) == 0) {
+            standAsShape(SHAPES[below(SHAPES.length)]);
+            crowd = below(2);
+        }
         for (int i = 0; i < crowd; i++) {
             call("add", below(wide), below(high));
+        }
+    }
+
+    /** Adds members on the slots of a shape, turned and shifted, so that it can be recognized. */
+    private void standAsShape(String text) {
+        int way = below(8);
+        int dx = below(12);
+        int dy = below(10);
+        String[] rows = text.split("/");
+        for (int r = 0; r < rows.length; r++) {
+            for (int c = 0; c < rows[r].length(); c++) {
+                if (rows[r].charAt(c) != '.') {
+                    int across = way % 2 == 0 ? c : r;
+                    int down = way % 2 == 0 ? r : c;
+                    call("add", dx + (way / 2 % 2 == 0 ? across : -across),
+                            dy + (way >= 4 ? -down : down));
+                }
+            }
+        }
+        feed(text);
+        call("shape", below(3));
+        for (int shape = 0; shape < 3; shape++) {
+            call("recognized", shape);
         }
     }
 

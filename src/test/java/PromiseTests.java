@@ -19,6 +19,8 @@ public final class PromiseTests {
         waitsAndSteppingAside();
         exchanges();
         waitsInARow();
+        orderOfTurns();
+        theFirstCellAndTheFirstMember();
         execute();
         commandTextsThatAreWrong();
         refusedCommands();
@@ -366,6 +368,46 @@ public final class PromiseTests {
         due("a member that steps has no waits in a row", x.member(1, 5), 0);
     }
 
+    private static void orderOfTurns() {
+        // Members 1 and 2 are both two steps from their places and want the cell 5,5 first.
+        SwarmPlanner x = planner("*..../....#/...#.", "a1,4;a4,5;a5,4");
+        members("distances", x, 3, -5, 1, 1);
+        // In a lane the one ahead, which is nearer, acts later: the one behind waits for it.
+        x = planner("*..##", "a0,0;a1,0;a2,0;o1,1;o2,1;o0,1");
+        members("slots", x, 1, -5, 1, 2);
+        members("distances", x, 3, -5, 2, 2);
+        due("the lower number of equal ones goes first and waits", x.rounds(1), 1);
+        members("reasons", x, 4, 6, 3, 0);
+        x = planner("*..##", "a0,0;a2,0;a1,0;o1,1;o2,1;o0,1");
+        members("slots", x, 1, -5, 1, 2);
+        members("distances", x, 3, -5, 1, 3);
+        due("the farther one goes first and waits", x.rounds(1), 1);
+        members("reasons", x, 4, 6, 0, 3);
+    }
+
+    private static void theFirstCellAndTheFirstMember() {
+        SwarmPlanner x = planner("#*", "a1,0;a0,1;g1");
+        due("a step to cell 0", x.member(1, 0), 0);
+        due("its place", x.member(1, 2), 0);
+        due("no distance", x.member(1, 3), 0);
+        x.rounds(1);
+        due("it stood there", x.member(1, 4), 1);
+        due("the slot of cell 0", x.cell(0, 2), 0);
+        due("just formed", x.healed(0), 0);
+        x = planner("", "a1,0;t0,0;g1");
+        due("the leader steps to cell 0", x.member(0, 0), 0);
+        Check.execute(x, "g1");
+        due("the leader is there", x.member(0, 4), 7);
+        x = planner("*/#", "a0,1;a0,2;a0,3;a1,2;x1;o1,3;o0,4;t1,1;g1");
+        due("member 3 beside the place", x.member(3, 0), 25);
+        x = planner("*#", "a2,0;a1,0;o1,1;o2,1;g3");
+        due("a step aside to cell 0", x.member(1, 0), 0);
+        due("its reason", x.member(1, 4), 5);
+        x = planner("*#", "a5,5;a0,0;l1;g1");
+        due("member 0 has a slot", x.member(0, 1), 1);
+        due("member 0 steps", x.member(0, 4), 0);
+    }
+
     private static void execute() {
         SwarmPlanner x = new SwarmPlanner();
         due("an empty tape", x.execute(), -100);
@@ -635,6 +677,10 @@ public final class PromiseTests {
         due("whatever slot the leader is on", x.recognized(0), 1);
         x = planner("*", "a11,9");
         due("one member", x.recognized(0), 0);
+        x = planner("./..#/.*#", "a0,1;a1,1;a1,0");
+        due("a shape with space around it", x.recognized(0), 0);
+        x = planner("./..#/.*#", "a11,9;a10,9;a10,8");
+        due("the same turned, in the last corner", x.recognized(0), 1);
         x = planner("*##", "a11,0;a0,1;a1,1");
         due("a row does not go on in the next one", x.recognized(0), -5);
     }
@@ -730,7 +776,9 @@ public final class PromiseTests {
         due("the shape", x.back(), 5);
         due("shapes", x.count(2), 0);
         due("lead", x.back(), 4);
+        due("member(0, 4)", x.member(0, 4), 0);
         due("rounds", x.back(), 3);
+        due("member(0, 4)", x.member(0, 4), -5);
         due("rounds", x.account(0), 0);
         due("its cell", x.member(0, 0), 0);
         due("choose", x.back(), 2);
@@ -747,6 +795,15 @@ public final class PromiseTests {
         due("nothing to undo", x.back(), -3);
         x.choose(0);
         due("a change without effect", x.back(), 0);
+        SwarmPlanner y = planner("*#", "a1,0;a0,0;o0,1;o1,1;o2,1;g2");
+        y.rounds(3);
+        y.lead(1);
+        y.back();
+        due("the leader before", y.swarm(1), 0);
+        y.back();
+        due("waits in a row before", y.member(1, 5), 2);
+        due("waits before", y.member(1, 7), 2);
+        due("rounds before", y.member(1, 8), 2);
         due("the tape stays", x.count(0), 1);
     }
 
