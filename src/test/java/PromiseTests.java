@@ -496,6 +496,7 @@ public final class PromiseTests {
         SwarmPlanner x = planner("#*#", "a5,5;a5,8;a5,9");
         due("no such member", x.member(3, 0), -1);
         due("no such member", x.member(-1, 0), -1);
+        due("no such member", x.member(10, 0), -1);
         due("no such number", x.member(0, 9), -1);
         due("no such number", x.member(0, -1), -1);
         members("cells", x, 0, 65, 101, 113);
@@ -720,6 +721,9 @@ public final class PromiseTests {
         due("the target stays", x.swarm(2), 0);
         due("it stands where it stood", x.cell(65, 1), 0);
         due("too few", x.healedWithout(3, 4), -5);
+        due("none", x.healedWithout(3, 0), -5);
+        SwarmPlanner y = planner("*#", "a5,5;a6,5;a9,9");
+        due("formed at once", y.healedWithout(2, 0), 0);
         x.lose(3);
         due("a lost one", x.healedWithout(3, 4), -1);
     }
@@ -737,6 +741,8 @@ public final class PromiseTests {
         due("a missing shape", x.again(), 0);
         x = planner("*#", "a0,0;a5,5;o1,0");
         due("no place", x.again(), 0);
+        x = planner("#*#", "a5,5;a4,5;a7,5");
+        due("one is there, one is a step away", x.again(), 1);
     }
 
     private static void account() {
