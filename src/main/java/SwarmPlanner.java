@@ -504,23 +504,18 @@ public final class SwarmPlanner {
         if (member >= 0) {
             world.part(member);
         }
-        int needed = roundsToForm(most);
-        // Rounds move no walls, so that the ways that are known stay right.
-        world.copyFrom(spare);
-        return needed;
-    }
-
-    private int roundsToForm(int most) {
-        for (int made = 0; made <= most; made++) {
+        int needed = ABSENT;
+        for (int made = 0; made <= most && needed < 0; made++) {
             giving.renew();
             if (giving.isFormed()) {
-                return made;
-            }
-            if (made < most) {
+                needed = made;
+            } else if (made < most) {
                 turns.makeRound();
             }
         }
-        return ABSENT;
+        // Rounds move no walls, so that the ways that are known stay right.
+        world.copyFrom(spare);
+        return needed;
     }
 
     /** What a snapshot contains, and each change that can be undone. */
