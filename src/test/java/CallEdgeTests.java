@@ -3,7 +3,11 @@ public final class CallEdgeTests {
     /** A place behind four lanes, each open at the end at which the one before is not. */
     private static final String FORTY_STEPS = """
             shape 0 '*#' = 2
-            map ............/##########0./............/.###########/............/###########./............/.########### = 1
+            add 10 1 = 0
+            obstacle 12..21 = 1
+            obstacle 37..47 = 1
+            obstacle 60..70 = 1
+            obstacle 85..95 = 1
             """;
 
     private CallEdgeTests() {
